@@ -231,6 +231,13 @@ public final class PromisesTest {
         due("4 a place where a peak was", x.seen(7, 0, 0), 1);
         due("4 land of nothing", x.land(), 0);
         answers.due("4 state of nothing", stateOf(x), "0 0 1 0 0 0 0 u0w4096");
+        Answers.type(x, "p0 0 9;p2 0 1;p4 0 9;");
+        due("4 land anew", x.land(), 3);
+        due("4 seen at first", x.seen(1, 0, 2), 1);
+        Answers.type(x, "p5 0 9;p2 0 9;p4 0 9;");
+        due("4 land anew", x.land(), 3);
+        due("4 hidden then", x.seen(1, 0, 2), 0);
+        due("4 a place where a peak was", x.seen(0, 0, 1), 1);
     }
 
     private static void landRefused() {
@@ -701,6 +708,7 @@ public final class PromisesTest {
         due("20 whole(0, 3)", x.whole(0, 3), BAD);
         due("20 whole(15, 3)", x.whole(15, 3), BAD);
         due("20 whole(0, most)", x.whole(0, MOST), BAD);
+        dueWhole(new HorizonPeaks(), 0, 0, 0, 0);
         HorizonPeaks bare = Answers.told(SINGLE);
         dueWhole(bare, 0, 0, 1, 0);
         dueWhole(bare, 65, 0, 2, 1);
@@ -766,6 +774,15 @@ public final class PromisesTest {
         x.erases(2);
         // Without the first 3 views are whole (1 away), without the second 15 (7 away).
         due("23 odd, more views without it", x.odd(), 1);
+        x.mends(0, 0, 84);
+        x.mends(1, 0, 12);
+        due("23 odd, more views without it", x.odd(), 0);
+        // There is one view alone, the first, that lacks just the third notch.
+        HorizonPeaks first = Answers.told("p7 7 40;p1 0 40;s0;");
+        first.sketches(0, 0, 0);
+        due("23 wholes", first.wholes(), 1);
+        first.notes(30, 333);
+        due("23 odd, one view without it", first.odd(), 2);
         due("23 odd without notches", Answers.told(FAN).odd(), NONE);
         // From 0, 0 a whole sketch, and one notch too many.
         HorizonPeaks fan = Answers.told("p7 0 7;p7 1 8;p7 2 9;s0;");
@@ -821,6 +838,12 @@ public final class PromisesTest {
         due("26 unseen, two told", x.unseen(), 2);
         x.clouds(0, 0, 0, 0);
         due("26 unseen, not both", x.unseen(), 0);
+        x.forget();
+        // From 3, 0 neither stands so, whatever is in the cloud.
+        x.clouds(3, 0, 0, 0);
+        due("26 unseen, told from elsewhere", x.unseen(), 3);
+        x.clouds(3, 0, 0, 1);
+        due("26 unseen, told from elsewhere", x.unseen(), 0);
         x.forget();
         x.clouds(0, 0, 0, 0);
         due("26 unseen", x.unseen(), 1);
