@@ -821,10 +821,8 @@ public final class HorizonPeaks {
         int wholeViews;
         int bestView;
         int bestScore;
-        // From the point where one stands: BEARINGS of the PEAKS that one looks for,
-        // and for each NOTCH bits of those that STAND as it does.
-        private final int[] bearings = new int[MOST_PEAKS];
-        private final int[] alike = new int[MOST_NOTCHES];
+        // From the point where one stands, for each NOTCH and PEAK: bits of the LOOKS with which it FITS.
+        private final long[] looks = new long[MOST_NOTCHES * MOST_PEAKS];
         // For each NOTCH, how many VIEWS are WHOLE without it alone.
         private final int[] lacking = new int[MOST_NOTCHES];
 
@@ -833,63 +831,60 @@ public final class HorizonPeaks {
             this.notches = notches;
         }
 
-        /** Whether any PEAK of those that one looks for (bits) is SEEN and STANDS as a NOTCH does. */
-        boolean standAt(int point, int lookedFor) {
-            for (int k = 0; k < notches.size; k++) {
-                alike[k] = 0;
-            }
-            boolean any = false;
+        /** Bits of the LOOKS with which some PEAK, of those that one looks for (bits), FITS some NOTCH. */
+        long standAt(int point, int lookedFor) {
+            long any = 0;
             int shown = land.inSight[point] & lookedFor;
             for (int p = 0; p < land.peaks; p++) {
-                int bit = 1 << p;
-                if ((shown & bit) == 0) {
-                    continue;
-                }
-                bearings[p] = land.bearingFrom(point, p);
-                int height = land.heightFrom(point, p);
+                boolean isShown = (shown >> p & 1) != 0;
+                int bearing = isShown ? land.bearingFrom(point, p) : 0;
+                int height = isShown ? land.heightFrom(point, p) : 0;
                 for (int k = 0; k < notches.size; k++) {
-                    if (Math.abs(height - notches.heights[k]) <= land.slack) {
-                        alike[k] |= bit;
-                        any = true;
-                    }
+                    boolean alike = isShown && Math.abs(height - notches.heights[k]) <= land.slack;
+                    long bits = alike ? looksAbout(bearing - notches.bearings[k]) : 0;
+                    looks[k * MOST_PEAKS + p] = bits;
+                    any |= bits;
                 }
             }
             return any;
         }
 
+        private long looksAbout(int look) {
+            long bits = 0;
+            for (int off = -land.slack; off <= land.slack; off++) {
+                bits |= 1L << Math.floorMod(look + off, TURN);
+            }
+            return bits;
+        }
+
         /** Bits of the PEAKS that FIT a NOTCH, from where one stands. */
         int fitting(int look, int k) {
             int bits = 0;
-            int want = look + notches.bearings[k];
-            for (int p = 0; alike[k] >> p != 0 && p < land.peaks; p++) {
-                if ((alike[k] >> p & 1) != 0) {
-                    int off = Math.floorMod(bearings[p] - want, TURN);
-                    if (Math.min(off, TURN - off) <= land.slack) {
-                        bits |= 1 << p;
-                    }
+            for (int p = 0; p < land.peaks; p++) {
+                if (isAmong(looks[k * MOST_PEAKS + p], look)) {
+                    bits |= 1 << p;
                 }
             }
             return bits;
         }
 
+        private static boolean isAmong(long bits, int look) {
+            return (bits >>> look & 1) != 0;
+        }
+
         int scoreWith(int point, int look, int lookedFor) {
-            return standAt(point, lookedFor) ? scoreOf(look) : 0;
+            return isAmong(standAt(point, lookedFor), look) ? scoreOf(look) : 0;
         }
 
         private int scoreOf(int look) {
-            return lookTo(look) > 0 ? matching.most(notches.size, NONE) : 0;
+            lookTo(look);
+            return matching.most(notches.size, NONE);
         }
 
-        /** How many NOTCHES a PEAK FITS, from where one stands. */
-        private int lookTo(int look) {
-            int many = 0;
+        private void lookTo(int look) {
             for (int k = 0; k < notches.size; k++) {
                 matching.rows[k] = fitting(look, k);
-                if (matching.rows[k] != 0) {
-                    many++;
-                }
             }
-            return many;
         }
 
         void know() {
@@ -902,9 +897,10 @@ public final class HorizonPeaks {
             bestScore = NO_PLACE;
             for (int point = 0; point < POINTS; point++) {
                 boolean place = !land.peakAt[point];
-                boolean any = place && standAt(point, land.allPeaks());
+                long any = place ? standAt(point, land.allPeaks()) : 0;
                 for (int look = 0; look < TURN; look++) {
-                    enter(point * TURN + look, any ? scoreOf(look) : place ? 0 : NO_PLACE);
+                    int score = place ? 0 : NO_PLACE;
+                    enter(point * TURN + look, isAmong(any, look) ? scoreOf(look) : score);
                 }
             }
         }

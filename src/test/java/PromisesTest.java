@@ -208,6 +208,17 @@ public final class PromisesTest {
         dueLand("p1 1 1;p2 2 2;" + ridges, 10);
         dueLand("p1 1 1;p2 2 2;" + ridges + "r0 1;", -64);
         dueLand("p1 1 1;p2 2 2;" + ridges + "p3 3 3;", 11);
+        dueLand(" ".repeat(140), 0);
+        dueLand("9".repeat(140), -10);
+        dueLand("s1;".repeat(46) + "  ", 46);
+        dueLand("s1;".repeat(46) + "s0", -150);
+        // What a longer text had there before is gone.
+        HorizonPeaks x = Answers.typed("p1 1 99999;  ;");
+        x.clear();
+        Answers.type(x, "p1 1 9");
+        due("4 land of a shorter text", x.land(), -16);
+        x.type(' ');
+        due("4 land of a shorter text", x.land(), -17);
     }
 
     private static HorizonPeaks busy() {
@@ -784,6 +795,12 @@ public final class PromisesTest {
         first.notes(30, 333);
         due("23 odd, one view without it", first.odd(), 2);
         due("23 odd without notches", Answers.told(FAN).odd(), NONE);
+        HorizonPeaks eight = Answers.told("p7 7 40;p7 6 38;p7 5 36;p7 4 34;p7 3 32;p7 2 30;p7 1 28;p7 0 26;s0;");
+        eight.sketches(0, 0, 0);
+        eight.mends(5, 60, 480);
+        due("23 odd of eight", eight.odd(), 5);
+        eight.mends(5, eight.bearing(0, 0, 2), eight.stands(0, 0, 2));
+        due("23 odd of eight put right", eight.wholes() > 0 ? 1 : 0, 1);
         // From 0, 0 a whole sketch, and one notch too many.
         HorizonPeaks fan = Answers.told("p7 0 7;p7 1 8;p7 2 9;s0;");
         fan.sketches(0, 0, 0);
