@@ -1,6 +1,10 @@
 import java.util.ArrayList;
+import java.util.HashSet;
 import java.util.List;
 import java.util.Random;
+import java.util.Set;
+import java.util.regex.Matcher;
+import java.util.regex.Pattern;
 
 /**
  * Long runs of calls, with the answers of a slow model beside them that was written by the document alone:
@@ -385,7 +389,7 @@ public final class ModelTest {
 
         private List<String> tokens(List<Integer> starts) {
             List<String> all = new ArrayList<>();
-            java.util.regex.Matcher matcher = java.util.regex.Pattern.compile("[0-9]+|[^ ]", java.util.regex.Pattern.DOTALL).matcher(text);
+            Matcher matcher = Pattern.compile("[0-9]+|[^ ]", Pattern.DOTALL).matcher(text);
             while (matcher.find()) {
                 all.add(matcher.group());
                 starts.add(matcher.start());
@@ -724,7 +728,7 @@ public final class ModelTest {
 
         int doubt() {
             int most = bestView()[3];
-            java.util.Set<Integer> places = new java.util.HashSet<>();
+            Set<Integer> places = new HashSet<>();
             for (int[] view : views(-1)) {
                 if (view[3] == most) {
                     places.add(view[0] * 8 + view[1]);
