@@ -98,8 +98,8 @@ public final class RulesTest {
 
     private static void words(String code) {
         String[] ruledOut = {"\\bthrow\\b", "\\btry\\b", "\\bcatch\\b", "\\bsynchronized\\b", "\\bassert\\b",
-            "->", "::", "\\bimport\\b", "\\bpackage\\b", "Exact\\b", "\\bnative\\b", "\\bvolatile\\b", "\"", "\\bdouble\\b",
-            "\\bfloat\\b", "\\bprotected\\b", "while \\(true\\)", "for \\(;;\\)"};
+            "->", "::", "\\bimport\\b", "\\bpackage\\b", "Exact\\b", "\\bnative\\b", "\\bvolatile\\b", "\"",
+            "\\bdouble\\b", "\\bfloat\\b", "\\bprotected\\b", "while \\(true\\)", "for \\(;;\\)"};
         for (String word : ruledOut) {
             answers.due("in the source: " + word, Pattern.compile(word).matcher(code).find() ? 1 : 0, 0);
         }
