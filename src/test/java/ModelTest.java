@@ -70,19 +70,23 @@ public final class ModelTest {
         }
 
         private void type(String letters) {
-            for (int i = 0; i < letters.length() && calls < CALLS; i++) {
+            for (int i = 0; i < letters.length(); i++) {
                 int letter = letters.charAt(i);
                 due("type(" + letter + ")", x.type(letter), model.type(letter));
             }
         }
 
         private void tellLand() {
-            if (random.nextInt(3) == 0) {
-                due("clear()", x.clear(), model.clear());
-            }
             String text = landText();
             for (int i = random.nextInt(8) - 5; i > 0; i--) {
                 text = spoilt(text);
+            }
+            // A clear() ahead, land(), and a clear() behind.
+            if (calls + text.length() + 3 > CALLS) {
+                return;
+            }
+            if (random.nextInt(3) == 0) {
+                due("clear()", x.clear(), model.clear());
             }
             type(text);
             due("land()", x.land(), model.land());

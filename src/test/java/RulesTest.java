@@ -26,7 +26,9 @@ public final class RulesTest {
         constructorsAndFields();
         nested();
         String source = Files.readString(Path.of("src/main/java/HorizonPeaks.java"));
-        words(source.replaceAll("(?s)/\\*.*?\\*/", "").replaceAll("//[^\n]*", ""));
+        String code = source.replaceAll("(?s)/\\*.*?\\*/", "").replaceAll("//[^\n]*", "");
+        words(code);
+        lengthsAndObjects(code);
         answers.end();
     }
 
@@ -94,6 +96,33 @@ public final class RulesTest {
             }
         }
         return false;
+    }
+
+    /** No method has more than sixty lines; objects are made with the object that holds them, by no call. */
+    private static void lengthsAndObjects(String code) {
+        Pattern head = Pattern.compile("( {4}| {8})(?:[a-z]+ )*(\\S+ )?(\\w+)\\([^()]*\\) \\{");
+        String indent = null;
+        String method = "";
+        boolean constructor = false;
+        int lines = 0;
+        for (String line : code.split("\n")) {
+            Matcher start = head.matcher(line);
+            if (indent == null && start.matches()) {
+                indent = start.group(1);
+                method = start.group(3);
+                constructor = Character.isUpperCase(method.charAt(0));
+                lines = 0;
+            }
+            lines++;
+            boolean makes = line.contains("new ");
+            boolean may = indent == null ? line.contains(" final ") : constructor;
+            answers.due("an object is made in " + method + ": " + line.trim(), makes && !may ? 1 : 0, 0);
+            if (indent != null && line.equals(indent + "}")) {
+                answers.due("lines of " + method, lines <= 60 ? 1 : 0, 1);
+                indent = null;
+            }
+        }
+        answers.due("every method has an end", indent == null ? 1 : 0, 1);
     }
 
     private static void words(String code) {
