@@ -77,7 +77,7 @@ public final class ModelTest {
         }
 
         private void tellLand() {
-            String text = landText();
+            String text = random.nextInt(3) == 0 ? crowdText() : landText();
             for (int i = random.nextInt(8) - 5; i > 0; i--) {
                 text = spoilt(text);
             }
@@ -141,7 +141,44 @@ public final class ModelTest {
             return text.toString();
         }
 
+        /** PEAKS that lie close together as one looks from 0, 0, and stand alike, so that many fit many. */
+        private String crowdText() {
+            StringBuilder text = new StringBuilder();
+            boolean[] taken = new boolean[64];
+            for (int i = 6 + random.nextInt(5); i > 0; i--) {
+                int px = 4 + random.nextInt(4);
+                int py = random.nextInt(5);
+                if (!taken[px * 8 + py]) {
+                    taken[px * 8 + py] = true;
+                    int high = (20 + random.nextInt(8)) * Math.max(px, py) / 12;
+                    text.append('p').append(px).append(' ').append(py).append(' ').append(high).append(';');
+                }
+            }
+            return text.append('s').append(1 + random.nextInt(3)).append(';').toString();
+        }
+
+        /** Eight NOTCHES near PEAKS as they are from 0, 0, and what is asked of them. */
+        private void crowd() {
+            for (int k = 0; k < 8 && !model.peaks.isEmpty(); k++) {
+                int p = random.nextInt(model.peaks.size());
+                int a = Math.floorMod(model.bearing(0, 0, p) + random.nextInt(5) - 2, 64);
+                int b = Math.min(480, Math.max(0, model.stands(0, 0, p) + random.nextInt(5) - 2));
+                if (k < model.notches.size()) {
+                    due("mends(" + k + ", " + a + ", " + b + ")", x.mends(k, a, b), model.mends(k, a, b));
+                } else {
+                    due("notes(" + a + ", " + b + ")", x.notes(a, b), model.notes(a, b));
+                }
+            }
+            for (int look = 62; look < 67; look++) {
+                due("score(0, 0, " + look % 64 + ")", x.score(0, 0, look % 64), model.score(0, 0, look % 64));
+            }
+        }
+
         private void anyCall() {
+            if (calls + 13 <= CALLS && random.nextInt(15) == 0 && model.isPlace(0, 0)) {
+                crowd();
+                return;
+            }
             switch (random.nextInt(12)) {
                 case 0: case 1: case 2: changeNotches(); break;
                 case 3: changeOther(); break;
@@ -639,10 +676,13 @@ public final class ModelTest {
             boolean[] can = new boolean[1 << notches.size()];
             can[0] = true;
             for (int[] peak : shown) {
-                for (int set = can.length - 1; set >= 0; set--) {
+                int like = 0;
+                for (int k = 0; k < notches.size(); k++) {
+                    like |= k != leftOut && isLike(notches.get(k), look, peak[0], peak[1]) ? 1 << k : 0;
+                }
+                for (int set = can.length - 1; set >= 0 && like != 0; set--) {
                     for (int k = 0; k < notches.size() && !can[set]; k++) {
-                        can[set] = k != leftOut && (set >> k & 1) != 0 && can[set & ~(1 << k)]
-                                && isLike(notches.get(k), look, peak[0], peak[1]);
+                        can[set] = (set & like & 1 << k) != 0 && can[set & ~(1 << k)];
                     }
                 }
             }

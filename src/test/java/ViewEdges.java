@@ -217,6 +217,46 @@ final class ViewEdges {
         due("eight, and seven peaks", x.score(0, 0, 0), 7);
     }
 
+    /** As many NOTCHES from k on as can have a PEAK that none ahead has, by all that FITS. */
+    private static int mostOf(boolean[][] fits, int k, int taken) {
+        if (k == fits.length) {
+            return 0;
+        }
+        int most = mostOf(fits, k + 1, taken);
+        for (int p = 0; p < fits[k].length; p++) {
+            if (fits[k][p] && (taken >> p & 1) == 0) {
+                most = Math.max(most, 1 + mostOf(fits, k + 1, taken | 1 << p));
+            }
+        }
+        return most;
+    }
+
+    /** The SCORE of the VIEW 0, y, LOOK is as many as there can be by what FITS there. */
+    private static void dueCrowd(int want, int y, int look, String text, int... marks) {
+        HorizonPeaks x = noted(text, marks);
+        boolean[][] fits = new boolean[x.count(3)][x.count(0)];
+        for (int k = 0; k < fits.length; k++) {
+            for (int p = 0; p < fits[k].length; p++) {
+                fits[k][p] = x.fits(0, y, look, k, p) == 1;
+            }
+        }
+        due("what fits in '" + text + "'", mostOf(fits, 0, 0), want);
+        due("score of '" + text + "'", x.score(0, y, look), want);
+    }
+
+    static void promise18_manyFitMany() {
+        dueCrowd(8, 0, 0, "p7 4 13;p6 1 11;p5 4 10;p7 3 13;p6 4 13;p4 0 9;p4 3 9;p4 1 8;s2;",
+                1, 24, 5, 22, 3, 24, 2, 23, 6, 26, 0, 23, 1, 20, 62, 25);
+        dueCrowd(8, 0, 0, "p7 4 13;p6 1 11;p5 4 10;p7 3 13;p6 4 13;p4 0 9;p4 3 9;p4 1 8;s2;",
+                4, 25, 5, 24, 6, 22, 1, 22, 5, 25, 1, 27, 8, 23, 5, 22);
+        dueCrowd(8, 0, 0, "p4 3 7;p6 3 11;p5 0 12;p7 4 14;p4 1 9;p5 2 11;p4 0 9;p7 2 15;p4 2 8;s3;",
+                4, 27, 6, 25, 4, 21, 4, 27, 2, 30, 3, 25, 4, 26, 5, 19);
+        dueCrowd(7, 0, 0, "p4 3 8;p5 0 11;p7 4 14;p5 2 12;p7 3 14;p4 2 9;p7 0 15;p6 0 10;p4 0 9;p6 1 10;s3;",
+                2, 22, 2, 24, 6, 25, 7, 23, 5, 22, 5, 29, 3, 26, 5, 29);
+        dueCrowd(8, 2, 58, "p6 1 12;p4 1 7;p6 2 11;p6 4 11;p4 4 8;p6 3 13;p7 1 15;p4 3 7;s3;",
+                2, 22, 4, 21, 6, 24, 9, 23, 2, 20, 5, 25, 5, 27, 1, 23);
+    }
+
     static void promise18_someFitNothing() {
         HorizonPeaks x = noted(SEVEN + "s0;", 0, 480, 1, 12, 30, 12, 3, 13);
         due("one of four", x.score(0, 0, 0), 1);
