@@ -87,11 +87,12 @@ final class Edges {
         HorizonPeaks x = busy();
         x.clear();
         Answers.type(x, FULL_TEXT);
-        while (x.count(4) < 6) {
-            x.clouds(x.count(4), 0, 7, 0);
+        // Two of each are there; a broken class must not keep a test from its end.
+        for (int n = 2; n < 6; n++) {
+            x.clouds(n, 0, 7, 0);
         }
-        while (x.count(3) < 8) {
-            x.notes(x.count(3), 50);
+        for (int n = 2; n < 8; n++) {
+            x.notes(n, 50);
         }
         x.mends(7, 9, 9);
         x.mends(7, 8, 8);
