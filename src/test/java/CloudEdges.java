@@ -91,6 +91,23 @@ final class CloudEdges {
         dueCounts(x, 3, 2, 2, 2, 3, 8, 5);
     }
 
+    static void promise24_allIsSeenAndFitsAsWithoutACloud() {
+        HorizonPeaks x = pairNoted();
+        int wholes = x.wholes();
+        int doubt = x.doubt();
+        x.clouds(0, 0, 0, 0);
+        x.clouds(0, 0, 1, 1);
+        due("unseen()", x.unseen(), 1);
+        due("seen(0, 0, 0)", x.seen(0, 0, 0), 1);
+        due("panorama(0, 0, -1)", x.panorama(0, 0, -1), 2);
+        due("fits(0, 0, 0, 0, 0)", x.fits(0, 0, 0, 0, 0), 1);
+        due("score(0, 0, 0)", x.score(0, 0, 0), 1);
+        due("wholes()", x.wholes(), wholes);
+        due("best(3)", x.best(3), 1);
+        due("doubt()", x.doubt(), doubt);
+        due("sketches(0, 0, 0)", x.sketches(0, 0, 0), 2);
+    }
+
     // ---- promise 25
 
     static void promise25_none() {

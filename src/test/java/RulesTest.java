@@ -1,12 +1,15 @@
 import java.io.IOException;
+import java.lang.reflect.Array;
 import java.lang.reflect.Constructor;
 import java.lang.reflect.Field;
+import java.lang.reflect.InvocationTargetException;
 import java.lang.reflect.Method;
 import java.lang.reflect.Modifier;
 import java.nio.file.Files;
 import java.nio.file.Path;
 import java.util.ArrayList;
 import java.util.Arrays;
+import java.util.IdentityHashMap;
 import java.util.List;
 import java.util.TreeSet;
 import java.util.regex.Matcher;
@@ -29,6 +32,8 @@ public final class RulesTest {
         String code = source.replaceAll("(?s)/\\*.*?\\*/", "").replaceAll("//[^\n]*", "");
         words(code);
         lengthsAndObjects(code);
+        noCallThrows();
+        room();
         answers.end();
     }
 
@@ -125,10 +130,115 @@ public final class RulesTest {
         answers.due("every method has an end", indent == null ? 1 : 0, 1);
     }
 
+    /** Each call with numbers at the edges of all that are told and far beyond, on objects of three states. */
+    private static void noCallThrows() {
+        List<Edges.Maker> states = List.of(HorizonPeaks::new, Edges::busy, Edges::full);
+        for (Edges.Maker state : states) {
+            for (Method method : HorizonPeaks.class.getDeclaredMethods()) {
+                if (Modifier.isPublic(method.getModifiers())) {
+                    callWithAll(method, state.make());
+                }
+            }
+        }
+    }
+
+    // One object for all of them, as rule 7 speaks of any state, behind 512 calls too.
+    private static void callWithAll(Method method, HorizonPeaks x) {
+        int[] some = {Integer.MIN_VALUE, -2, -1, 0, 1, 2, 7, 8, 9, 63, 64, 480, 4096, Integer.MAX_VALUE};
+        int parameters = method.getParameterCount();
+        long rows = 1;
+        for (int i = 0; i < parameters; i++) {
+            rows *= some.length;
+        }
+        String thrown = "";
+        for (long row = 0; row < rows && thrown.isEmpty(); row++) {
+            Object[] numbers = new Object[parameters];
+            long rest = row;
+            for (int i = 0; i < parameters; i++) {
+                numbers[i] = some[(int) (rest % some.length)];
+                rest /= some.length;
+            }
+            thrown = thrownBy(method, x, numbers);
+        }
+        answers.due(method.getName() + " throws", thrown, "");
+    }
+
+    private static String thrownBy(Method method, HorizonPeaks x, Object[] numbers) {
+        try {
+            method.invoke(x, numbers);
+            return "";
+        } catch (InvocationTargetException thrown) {
+            return Arrays.toString(numbers) + " " + thrown.getCause();
+        } catch (IllegalAccessException thrown) {
+            return thrown.toString();
+        }
+    }
+
+    /** An object holds few others, and as many behind all its calls as at first: a thousand have room. */
+    private static void room() {
+        long[] atFirst = sizeOf(new HorizonPeaks());
+        answers.due("objects and arrays: " + atFirst[0], atFirst[0] <= 100 ? 1 : 0, 1);
+        answers.due("fields and elements: " + atFirst[1], atFirst[1] <= 7000 ? 1 : 0, 1);
+        HorizonPeaks x = Edges.full();
+        x.wholes();
+        x.odd();
+        x.unseen();
+        x.land();
+        answers.due("size behind calls", Arrays.toString(sizeOf(x)), Arrays.toString(atFirst));
+    }
+
+    /** How many objects and arrays hang on one, itself too, and how many fields and elements they have. */
+    private static long[] sizeOf(Object root) {
+        IdentityHashMap<Object, Boolean> known = new IdentityHashMap<>();
+        List<Object> open = new ArrayList<>(List.of(root));
+        known.put(root, true);
+        long parts = 0;
+        for (int i = 0; i < open.size(); i++) {
+            List<Object> below = new ArrayList<>();
+            parts += partsOf(open.get(i), below);
+            for (Object one : below) {
+                if (one != null && known.put(one, true) == null) {
+                    open.add(one);
+                }
+            }
+        }
+        return new long[] {open.size(), parts};
+    }
+
+    private static int partsOf(Object one, List<Object> below) {
+        if (one.getClass().isArray()) {
+            int length = Array.getLength(one);
+            for (int i = 0; i < length && !one.getClass().getComponentType().isPrimitive(); i++) {
+                below.add(Array.get(one, i));
+            }
+            return length;
+        }
+        int fields = 0;
+        for (Field field : one.getClass().getDeclaredFields()) {
+            if (!Modifier.isStatic(field.getModifiers())) {
+                fields++;
+                field.setAccessible(true);
+                if (!field.getType().isPrimitive()) {
+                    below.add(valueOf(field, one));
+                }
+            }
+        }
+        return fields;
+    }
+
+    private static Object valueOf(Field field, Object one) {
+        try {
+            return field.get(one);
+        } catch (IllegalAccessException thrown) {
+            throw new IllegalStateException(thrown);
+        }
+    }
+
     private static void words(String code) {
         String[] ruledOut = {"\\bthrow\\b", "\\btry\\b", "\\bcatch\\b", "\\bsynchronized\\b", "\\bassert\\b",
             "->", "::", "\\bimport\\b", "\\bpackage\\b", "Exact\\b", "\\bnative\\b", "\\bvolatile\\b", "\"",
-            "\\bdouble\\b", "\\bfloat\\b", "\\bprotected\\b", "while \\(true\\)", "for \\(;;\\)"};
+            "\\bdouble\\b", "\\bfloat\\b", "\\bprotected\\b", "while \\(true\\)", "for \\(;;\\)", "\\bnew \\w+\\(.*\\{",
+            "\\[\\]\\[\\]", "\\bstatic \\{", "\\b(equals|hashCode|toString)\\b"};
         for (String word : ruledOut) {
             answers.due("in the source: " + word, Pattern.compile(word).matcher(code).find() ? 1 : 0, 0);
         }
